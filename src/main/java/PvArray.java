@@ -535,7 +535,6 @@ public final class PvArray {
             lightCurrent = newIrradiance * ratedCurrent / 1000;
         }
 
-        @Override
         int valueAt(int current) {
             if (current > lightCurrent) {
                 return -diodes.drop;
@@ -544,7 +543,6 @@ public final class PvArray {
             return voltage > 0 ? voltage : 0;
         }
 
-        @Override
         int end() {
             return lightCurrent;
         }
@@ -564,7 +562,6 @@ public final class PvArray {
             return count >= MAX_MODULES_OF_STRING;
         }
 
-        @Override
         int valueAt(int current) {
             int sum = 0;
             for (int p = 0; p < count; p++) {
@@ -573,7 +570,6 @@ public final class PvArray {
             return sum;
         }
 
-        @Override
         int end() {
             int greatest = 0;
             int cap = MAX_CURRENT;
@@ -660,7 +656,6 @@ public final class PvArray {
             this.strings = strings;
         }
 
-        @Override
         int valueAt(int voltage) {
             int sum = 0;
             for (int s = 0; s < count; s++) {
@@ -669,7 +664,6 @@ public final class PvArray {
             return sum;
         }
 
-        @Override
         int end() {
             return MAX_ARRAY_VOLTAGE;
         }
