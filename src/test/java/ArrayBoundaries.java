@@ -88,11 +88,11 @@ public final class ArrayBoundaries {
     }
 
     private static void mismatchLoss() {
-        Runs.run("Promise 29", "the sum of the peak powers of all modules minus the best powers (none, empty ones)", """
+        Runs.run("Promise 29", "the sum of the peak powers of all modules minus the sum of the best powers of all strings (none, empty ones)", """
                 mismatchLoss() = 0; addString(); mismatchLoss() = 0
                 addString(); addModule(1, 800, 400); mismatchLoss() = 0
                 """);
-        Runs.run("Promise 29", "the sum of the peak powers of all modules minus the best powers (0 and more)", """
+        Runs.run("Promise 29", "the sum of the peak powers of all modules minus the sum of the best powers of all strings (0 and more)", """
                 array(2, 1)
                 mismatchLoss() = 0
                 setIrradiance(2, 500); mismatchLoss() = 0        # it is alone in its string

@@ -22,6 +22,7 @@ public final class DescriptionBoundaries {
         Runs.run("Units", "Every division in this document rounds toward zero (voltage)", """
                 array(1)
                 setResistance(0, 4999); moduleVoltage(0, 2) = 400  # a loss of 0.9998
+                setResistance(0, 3333); moduleVoltage(0, 3) = 400  # of 0.9999
                 setResistance(0, 5000); moduleVoltage(0, 2) = 399  # of 1
                 moduleVoltage(0, 3) = 399                          # of 1.5
                 moduleVoltage(0, 4) = 398                          # of 2
@@ -244,21 +245,21 @@ public final class DescriptionBoundaries {
     }
 
     private static void arrays() {
-        Runs.run("Array", "the greatest current from 0 to its current limit at which the voltage is at least v", """
+        Runs.run("Array", "the greatest current from 0 to its current limit at which the voltage of the string is at least v", """
                 array(2)
                 setIrradiance(1, 500)
                 arrayCurrent(392) = 800; arrayCurrent(393) = 800; arrayCurrent(394) = 400
                 arrayCurrent(799) = 400; arrayCurrent(800) = 400; arrayCurrent(801) = 0
                 setBypassDiode(1, false); arrayCurrent(0) = 400; arrayCurrent(393) = 400
                 """);
-        Runs.run("Array", "the greatest current from 0 to its current limit at which the voltage is at least v (slope)", """
+        Runs.run("Array", "the greatest current from 0 to its current limit at which the voltage of the string is at least v (slope)", """
                 array(1)
                 setResistance(0, 5000)
                 stringVoltage(0, 201) = 300; stringVoltage(0, 202) = 299
                 arrayCurrent(300) = 201; arrayCurrent(299) = 203
                 arrayCurrent(400) = 1; arrayCurrent(0) = 800; arrayCurrent(1) = 799
                 """);
-        Runs.run("Array", "the greatest current from 0 to its current limit at which the voltage is at least v (of 0)", """
+        Runs.run("Array", "the greatest current from 0 to its current limit at which the voltage of the string is at least v (of 0)", """
                 array(1); addModule(0, 100, 6)
                 setIrradiance(0, 1)    # no photocurrent
                 stringVoltage(0, 0) = 406; stringVoltage(0, 1) = -1; arrayCurrent(0) = 0

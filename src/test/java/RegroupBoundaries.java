@@ -3,31 +3,45 @@ public final class RegroupBoundaries {
     /** Example 4's array: exchanging 0 with 3, or 1 with 2, gains 267200. */
     private static final String TWO_SHADED = "array(2, 2); setIrradiance(0, 400); setIrradiance(2, 400);";
 
-    private static void noGain(String where, String text, String calls) {
-        Runs.run(where, text, calls + "; bestSwapGain() = 0; bestSwapLower() = NONE; bestSwapHigher() = NONE");
+    /** A run for each of the three promises, so that none leans on a call of another. */
+    private static void noGain(String which, String calls) {
+        String sentence = "if no exchange has a gain greater than 0 (" + which + ")";
+        Runs.run("Promise 30", "0 " + sentence, calls + "; bestSwapGain() = 0");
+        Runs.run("Promise 31", "NONE " + sentence, calls + "; bestSwapLower() = NONE");
+        Runs.run("Promise 32", "NONE " + sentence, calls + "; bestSwapHigher() = NONE");
     }
 
     private static void noExchange() {
-        String sentence = "0 if no exchange has a gain greater than 0; NONE if no exchange has a gain greater than 0";
-        String where = "Promises 30 to 32";
-        noGain(where, sentence + " (no strings)", "");
-        noGain(where, sentence + " (no modules)", "array(0, 0)");
-        noGain(where, sentence + " (one module)", "array(1, 0)");
-        noGain(where, sentence + " (one string)", "array(3); setIrradiance(1, 500)");
-        noGain(where, sentence + " (empty strings beside one)", "array(0, 3, 0); setIrradiance(1, 500)");
-        noGain(where, sentence + " (all alike: every gain is 0)", "array(2, 2)");
-        noGain(where, sentence + " (every gain is below 0)", """
+        noGain("no strings", "");
+        noGain("no modules", "array(0, 0)");
+        noGain("one module", "array(1, 0)");
+        noGain("one string", "array(3); setIrradiance(1, 500)");
+        noGain("empty strings beside one", "array(0, 3, 0); setIrradiance(1, 500)");
+        noGain("all alike: every gain is 0", "array(2, 2)");
+        noGain("every gain is below 0", """
                 array(2, 2)
                 shade(0, 1, 60)
-                totalBestPower() = 896000; swapModules(0, 2) = 1; totalBestPower() = 628800; swapModules(0, 2)
+                totalBestPower() = 896000; swapModules(0, 2) = 1; totalBestPower() = 628800; swapModules(0, 2) = 1
                 """);
-        noGain(where, sentence + " (one module in each string: every gain is 0)", """
+        noGain("one module in each string: every gain is 0", """
                 array(1, 1, 1)
                 setIrradiance(0, 100); setIrradiance(2, 900)
                 """);
-        noGain(where, sentence + " (it has been carried out)", TWO_SHADED + """
+        noGain("it has been carried out", TWO_SHADED + """
                 bestSwapGain() = 267200; swapModules(0, 3) = 1
                 """);
+        noGain("all is dark now", TWO_SHADED + """
+                bestSwapGain() = 267200; bestSwapLower() = 0; bestSwapHigher() = 3; shade(0, 3, 100) = 4
+                """);
+    }
+
+    private static void gains() {
+        Runs.run("Promise 30", "Returns the gain of the best exchange", TWO_SHADED + "bestSwapGain() = 267200");
+        Runs.run("Promise 31", "Returns the lower module index of the best exchange", TWO_SHADED
+                + "bestSwapLower() = 0; swapModules(0, 3) = 1; setIrradiance(1, 400); setIrradiance(2, 1000);"
+                + "layout(0) = 3 1; layout(1) = 2 0; bestSwapLower() = 0");
+        Runs.run("Promise 32", "Returns the higher module index of the best exchange", TWO_SHADED
+                + "bestSwapHigher() = 3; setIrradiance(2, 1000); setIrradiance(3, 400); bestSwapHigher() = 2");
     }
 
     private static void bestSwapGain() {
@@ -62,7 +76,7 @@ public final class RegroupBoundaries {
     }
 
     private static void ties() {
-        Runs.run("Promise 31", "If several exchanges have the greatest gain: the lowest index of its lower module", TWO_SHADED + """
+        Runs.run("Promise 31", "If several exchanges have the greatest gain, the best one has the lowest index of its lower module", TWO_SHADED + """
                 bestSwapLower() = 0; bestSwapHigher() = 3; bestSwapGain() = 267200
                 swapModules(1, 2) = 1; totalBestPower() = 896000    # 1 with 2 gains as much
                 """);
@@ -84,7 +98,7 @@ public final class RegroupBoundaries {
                 bestSwapLower() = 0; bestSwapHigher() = 1; bestSwapGain() = 133600
                 totalBestPower() = 948800; swapModules(0, 2) = 1; totalBestPower() = 1082400
                 """);
-        Runs.run("Promises 31 and 32", "the lower and the higher module index (wherever they stand)", TWO_SHADED + """
+        Runs.run("Promise 32", "the higher module index of the best exchange (wherever the two stand)", TWO_SHADED + """
                 swapModules(0, 2) = 1; swapModules(1, 3) = 1; layout(0) = 2 3; layout(1) = 0 1
                 bestSwapLower() = 0; bestSwapHigher() = 3
                 moveModule(0, 1) = 1; moveModule(2, 0) = 1; layout(0) = 3 2; layout(1) = 1 0
@@ -125,6 +139,12 @@ public final class RegroupBoundaries {
                 shade(0, 2, 100); swapModules(0, 2) = 1; layout(1) = 1 0
                 regroup() = 2; layout(0) = 0; layout(1) = 1 2
                 """);
+        Runs.run("Promise 33", "sorted by decreasing photocurrent (once more, in another order)", """
+                array(2, 2)
+                setIrradiance(3, 1200); regroup() = 2; layout(0) = 3 0; layout(1) = 1 2
+                setIrradiance(3, 0); setIrradiance(2, 1200); regroup() = 2; layout(0) = 2 0; layout(1) = 1 3
+                shade(0, 3, 100); regroup() = 2; layout(0) = 0 1; layout(1) = 2 3
+                """);
         Runs.run("Promise 33", "each string gets as many modules as it had before", """
                 array(1, 0, 3, 0, 2, 0)
                 setIrradiance(5, 1200); setIrradiance(0, 0)
@@ -155,6 +175,7 @@ public final class RegroupBoundaries {
     public static void main(String[] args) {
         Runs.begin();
         noExchange();
+        gains();
         bestSwapGain();
         ties();
         regroup();

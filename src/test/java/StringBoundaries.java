@@ -62,7 +62,7 @@ public final class StringBoundaries {
                 stringPower(-1, 0) = NO_POWER; stringPower(0, 1) = 400; stringPower(1, 0) = 0
                 stringPower(2, 0) = NO_POWER; stringPower(LEAST, 0) = NO_POWER; stringPower(MOST, 0) = NO_POWER
                 """);
-        Runs.run("Promise 18", "current: from 0 to the current limit of the string; NO_POWER if current is out of range", """
+        Runs.run("Promise 18", "current: from 0 to the current limit of the string; NO_POWER if string is not valid or current is out of range", """
                 array(1)
                 stringPower(0, -1) = NO_POWER; stringPower(0, 0) = 0; stringPower(0, 1) = 400
                 stringPower(0, 800) = 320000; stringPower(0, 801) = NO_POWER
@@ -196,6 +196,17 @@ public final class StringBoundaries {
                 peakCount(0) = 2; peakCurrent(0, 1) = 800; peakCurrent(0, 2) = NONE; peakCurrent(0, 3) = NONE
                 peakCurrent(0, MOST) = NONE
                 peakCount(1) = 0; peakCurrent(1, 0) = NONE; peakCurrent(1, 1) = NONE; peakCurrent(1, MOST) = NONE
+                """);
+        Runs.run("Promise 21", "NONE if there are k or fewer local peaks (0 is no peak)", """
+                array(1); addModule(0, 2, 1)
+                setIrradiance(0, 0)
+                stringPower(0, 1) = -6; peakCount(0) = 0; peakCurrent(0, 0) = NONE
+                setIrradiance(1, 0); currentLimit(0) = 0; peakCount(0) = 0; peakCurrent(0, 0) = NONE
+                """);
+        Runs.run("Promise 21", "NONE if there are k or fewer local peaks (neighbours alike)", """
+                array(0); addModule(0, 2, 2)
+                setResistance(0, 5000)
+                stringPower(0, 1) = 2; stringPower(0, 2) = 2; peakCurrent(0, 0) = NONE
                 """);
     }
 

@@ -127,13 +127,27 @@ public final class TrackerBoundaries {
                 setIrradiance(0, 250); setIrradiance(1, 125)    # peaks at 100 and 200
                 scanAndClimb(0, 201) = 100; scanAndClimb(0, 500) = 100
                 """);
-        Runs.run("Promise 25", "up to the current limit; it is scanned only if it is a multiple of interval", """
+        Runs.run("Promise 25", "It evaluates the power at 0, interval, 2 times interval and so on (by 1 and by 2)", """
+                array(0); addModule(0, 796, 401); addModule(0, 399, 399)
+                setDiodeDrop(0)
+                stringPower(0, 398) = 318400; stringPower(0, 399) = 319200; stringPower(0, 796) = 319196
+                scanAndClimb(0, 1) = 399; scanAndClimb(0, 2) = 796; scanAndClimb(0, 3) = 399
+                """);
+        Runs.run("Promise 25", "and so on, up to the current limit", """
                 array(1); addModule(0, 350, 415)
                 setDiodeDrop(0)
-                stringPower(0, 350) = 285250; stringPower(0, 800) = 320000; stringPower(0, 600) = 240000
-                scanAndClimb(0, 200) = 800    # 200, 400, 600 and 800
-                scanAndClimb(0, 400) = 800    # 400 and 800
-                scanAndClimb(0, 267) = 350    # 267 times 815 is more than 534 times 400
+                stringPower(0, 200) = 163000; stringPower(0, 400) = 160000; stringPower(0, 600) = 240000
+                scanAndClimb(0, 200) = 800    # 800 has the greatest power of all
+                scanAndClimb(0, 300) = 350    # 300 times 815 is more than 600 times 400, and 900 is above 800
+                scanAndClimb(0, 266) = 800    # 798 is the last and the best
+                """);
+        Runs.run("Promise 25", "The current limit itself is scanned only if it is a multiple of interval", """
+                array(1); addModule(0, 350, 415)
+                setDiodeDrop(0)
+                stringPower(0, 350) = 285250; stringPower(0, 800) = 320000
+                scanAndClimb(0, 400) = 800    # it is
+                scanAndClimb(0, 267) = 350    # it is not, and 267 times 815 is more than 534 times 400
+                scanAndClimb(0, 300) = 350
                 """);
         Runs.run("Promise 25", "if several have the greatest power, it starts at the lowest of them", """
                 array(2)
@@ -171,12 +185,18 @@ public final class TrackerBoundaries {
         Runs.run("Promise 25", "and the power one above is greater (alike is not)", LEVEL + """
                 scanAndClimb(0, 90) = 100; scanAndClimb(0, 100) = 100    # not on to 101
                 """);
-        Runs.run("Promise 25", "otherwise, if the power one below is greater, it decreases by 1", """
+        Runs.run("Promise 25", "otherwise, if the present current is above 0 and the power one below is greater, it decreases by 1", """
                 array(0); addModule(0, 500, 1); addModule(0, 499, 400)
                 setDiodeDrop(0)
                 stringPower(0, 500) = 500; stringPower(0, 499) = 200099; scanAndClimb(0, 500) = 499
                 """);
-        Runs.run("Promise 25", "otherwise, if the power one below is greater (alike is not)", LEVEL + """
+        Runs.run("Promise 25", "if the present current is above 0 and the power one below is greater (that two below is less)", """
+                array(0); addModule(0, 500, 400); addModule(0, 499, 1)
+                setDiodeDrop(0)
+                stringPower(0, 500) = 200000; stringPower(0, 499) = 200099; stringPower(0, 498) = 199698
+                scanAndClimb(0, 500) = 499
+                """);
+        Runs.run("Promise 25", "if the present current is above 0 and the power one below is greater (alike is not)", LEVEL + """
                 scanAndClimb(0, 150) = 101; scanAndClimb(0, 101) = 101    # not on to 100
                 """);
         Runs.run("Promise 25", "if the present current is above 0", """

@@ -16,7 +16,8 @@ import java.util.Set;
 final class Runs {
     private static final int MOST_CALLS = 512;
     private static final long LAST_ERROR = -1001;
-    private static final long MOST_SECONDS = 300;
+    private static final long MOST_SECONDS = 120;
+    private static final int MOST_MODULES = 24;
     private static final Set<String> CHANGING = Set.of("addString", "addModule", "setIrradiance", "shade",
             "setResistance", "setBypassDiode", "setDiodeDrop", "moveModule", "swapModules", "regroup");
 
@@ -219,13 +220,13 @@ final class Runs {
             List<String> modules = new ArrayList<>();
             int module = x.moduleAt(string, 0);
             calls++;
-            for (int p = 1; module >= 0; p++) {
+            for (int p = 1; module >= 0 && p <= MOST_MODULES; p++) {
                 boolean agrees = x.stringOf(module) == string;
                 modules.add(agrees ? Integer.toString(module) : module + " of another string");
                 module = x.moduleAt(string, p);
                 calls += 2;
             }
-            return module != PvArray.NONE ? Integer.toString(module)
+            return module != PvArray.NONE ? modules + " and then " + module
                     : modules.isEmpty() ? "empty" : String.join(" ", modules);
         }
 
@@ -235,7 +236,7 @@ final class Runs {
             for (int s = 0; s < 6; s++) {
                 text.append("string ").append(layout(s)).append("; ");
             }
-            for (int m = 0; x.stringOf(m) >= 0; m++) {
+            for (int m = 0; m < MOST_MODULES && x.stringOf(m) >= 0; m++) {
                 text.append("module ").append(x.photocurrent(m)).append(' ').append(x.setIrradiance(m, 1000))
                         .append(' ').append(x.photocurrent(m)).append(' ').append(x.moduleVoltage(m, 0))
                         .append(' ').append(x.setResistance(m, 0)).append(' ').append(x.setBypassDiode(m, true))
