@@ -29,10 +29,10 @@ public final class PvArray {
     private static final int COARSE_POINTS = 32;
 
     // All modules and strings are made at once, so that no call meets null and none makes objects.
-    private final Diodes diodes = new Diodes();
-    private final PvModule[] modules = new PvModule[MAX_MODULES];
+    private final Diodes diodes;
+    private final PvModule[] modules;
     private int moduleCount = 0;
-    private final PvString[] strings = new PvString[MAX_STRINGS];
+    private final PvString[] strings;
     private final Parallel parallel;
 
     private final long[] powerBefore = new long[MAX_STRINGS];
@@ -43,13 +43,20 @@ public final class PvArray {
     private final int[] sorted = new int[MAX_MODULES];
 
     public PvArray() {
+        // The parts know each other before the array takes them, so that it hands out none of its own.
+        Diodes allDiodes = new Diodes();
+        PvModule[] allModules = new PvModule[MAX_MODULES];
         for (int m = 0; m < MAX_MODULES; m++) {
-            modules[m] = new PvModule(diodes);
+            allModules[m] = new PvModule(allDiodes);
         }
+        PvString[] allStrings = new PvString[MAX_STRINGS];
         for (int s = 0; s < MAX_STRINGS; s++) {
-            strings[s] = new PvString(modules);
+            allStrings[s] = new PvString(allModules);
         }
-        parallel = new Parallel(strings);
+        parallel = new Parallel(allStrings);
+        diodes = allDiodes;
+        modules = allModules;
+        strings = allStrings;
     }
 
     // ---- construction
@@ -429,7 +436,16 @@ public final class PvArray {
         }
         for (int lower = 0; lower < moduleCount; lower++) {
             for (int higher = lower + 1; higher < moduleCount; higher++) {
-                long gain = gainOfSwap(lower, higher);
+                int one = modules[lower].string;
+                int other = modules[higher].string;
+                if (one == other) {
+                    continue;
+                }
+                exchange(lower, higher);
+                long after = strings[one].greatestProduct() + strings[other].greatestProduct();
+                exchange(lower, higher);
+                long gain = after - powerBefore[one] - powerBefore[other];
+                // Only a greater gain counts, so that of equal ones the first, the lowest pair, stays.
                 if (gain > swapGain) {
                     swapGain = gain;
                     swapLower = lower;
@@ -437,18 +453,6 @@ public final class PvArray {
                 }
             }
         }
-    }
-
-    private long gainOfSwap(int lower, int higher) {
-        int one = modules[lower].string;
-        int other = modules[higher].string;
-        if (one == other) {
-            return 0;
-        }
-        exchange(lower, higher);
-        long after = strings[one].greatestProduct() + strings[other].greatestProduct();
-        exchange(lower, higher);
-        return after - powerBefore[one] - powerBefore[other];
     }
 
     private void sortByLightCurrent() {
